@@ -7,6 +7,8 @@ import java.nio.file.Files;
 import java.nio.file.Path;
 import java.util.Set;
 import java.util.TreeSet;
+import java.util.regex.Matcher;
+import java.util.regex.Pattern;
 
 /** The face of the document, rules of LANGUAGE.md that a test can see, and calls in every state. */
 public final class RuleTests {
@@ -53,6 +55,8 @@ public final class RuleTests {
                 && constructors[0].toString().equals("public SpeedRows()"));
         hold("the class is public and final",
                 SpeedRows.class.getModifiers() == (Modifier.PUBLIC | Modifier.FINAL));
+        hold("the class stands by itself", SpeedRows.class.getSuperclass() == Object.class
+                && SpeedRows.class.getInterfaces().length == 0 && SpeedRows.class.getPackageName().isEmpty());
         for (Field field : SpeedRows.class.getDeclaredFields()) {
             int kind = field.getModifiers();
             hold(field + " is private", Modifier.isPrivate(kind));
@@ -69,6 +73,36 @@ public final class RuleTests {
             String pattern = Character.isLetter(word.charAt(0)) && word.equals(word.toLowerCase())
                     ? "(?s).*\\b" + word + "\\b.*" : "(?s).*" + word + ".*";
             hold("the source has no " + word, !text.matches(pattern));
+        }
+        library(text);
+    }
+
+    /** Rule 4: what the class needs of the library today; a name more is looked up in the rule first. */
+    private static void library(String text) {
+        Matcher use = Pattern.compile("\\b([A-Z]\\w*[a-z]\\w*\\.\\w+)").matcher(text);
+        while (use.find()) {
+            hold("the library has " + use.group(1), Set.of("Math.max", "Math.min").contains(use.group(1)));
+        }
+        Matcher made = Pattern.compile("\\bnew (\\w+.)").matcher(text);
+        while (made.find()) {
+            hold("rows of int alone are made: " + made.group(1), made.group(1).equals("int["));
+        }
+    }
+
+    /** Rule 11: parameters, fields and, by the braces at the margin of the class, the lines of a method. */
+    private static void sizes() throws IOException {
+        for (Method method : SpeedRows.class.getDeclaredMethods()) {
+            hold(method + " has at most seven parameters", method.getParameterCount() <= 7);
+        }
+        int fields = 0;
+        for (Field field : SpeedRows.class.getDeclaredFields()) {
+            fields += Modifier.isStatic(field.getModifiers()) ? 0 : 1;
+        }
+        hold("at most twenty fields", fields <= 20);
+        int since = 0;
+        for (String line : Files.readAllLines(Path.of(SOURCE))) {
+            since = line.equals("    }") ? 0 : since + 1;
+            hold("a method of at most sixty lines", since <= 60);
         }
     }
 
@@ -125,6 +159,7 @@ public final class RuleTests {
     public static void main(String[] args) throws IOException {
         face();
         source();
+        sizes();
         wildArguments();
         fullPath();
         System.out.println(wrong == 0 ? "all rules hold" : wrong + " rules do not hold");
