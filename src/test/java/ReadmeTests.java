@@ -118,7 +118,7 @@ public final class ReadmeTests {
             hold(told.group(1) + " is a file", new File(told.group(1)).isFile());
         }
         hold("it tells of .ci/run", text.contains("\n    .ci/run\n"));
-        hold(".ci/run can be run", new File(".ci/run").canExecute());
+        hold(".ci/run is a file", new File(".ci/run").isFile());
     }
 
     public static void main(String[] args) throws IOException, ReflectiveOperationException {

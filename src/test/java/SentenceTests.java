@@ -1,5 +1,5 @@
 /**
- * One test for each sentence of the document that names no boundary case, in the document's order:
+ * Sentences of the document that name no boundary case, a test each, in the document's order:
  * whose numbers count where, and what a call leaves as it is. Each test begins with the sentence.
  */
 public final class SentenceTests {
